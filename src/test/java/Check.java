@@ -56,11 +56,8 @@ final class Check {
         }
     }
 
-    /**
-     * Files 2 .. 6 at (1, 1) .. (1, 5). Blocks 0 .. 4 are full; block 0 has 10 dead words, and block 5
-     * the HEAD of a link, left by a collection that was cut.
-     */
-    static NodeLogFlash noEmptyBlock() {
+    /** Files 2 .. 6 at (1, 1) .. (1, 5). Blocks 0 .. 4 are full, block 0 has 10 dead words; block 5 is empty. */
+    static NodeLogFlash fiveFullBlocks() {
         NodeLogFlash x = mounted();
         for (int file = 2; file <= 5; file++) {
             x.make(1, file - 1, false);
@@ -70,6 +67,12 @@ final class Check {
         x.write(2, 0, 6, 1000);
         x.make(1, 5, false);
         x.write(6, 0, 4, 600);
+        return x;
+    }
+
+    /** The same, but block 5 has the HEAD of a link, left by a collection that was cut. */
+    static NodeLogFlash noEmptyBlock() {
+        NodeLogFlash x = fiveFullBlocks();
         x.arm(1);
         if (x.collect() != NodeLogFlash.CUT || x.mount() != 14) {
             throw new IllegalStateException("the collection was not cut");

@@ -39,7 +39,8 @@ final class FaceTest {
         for (Field field : NodeLogFlash.class.getDeclaredFields()) {
             int modifiers = field.getModifiers();
             if (Modifier.isPrivate(modifiers)) {
-                C.due(field.getName() + " is final", Modifier.isFinal(modifiers), true);
+                boolean changes = Modifier.isStatic(modifiers) && !Modifier.isFinal(modifiers);
+                C.due(field.getName() + " is static and can change", changes, false);
                 continue;
             }
             seen++;

@@ -111,6 +111,23 @@ final class Promise02MountTest {
         C.due("deadWords(0)", x.deadWords(0), 15);
     }
 
+    /** Nine directories, each in the one before it, whose links lie in the opposite order. */
+    private static void linksBeforeThoseOfTheirParents() {
+        NodeLogFlash x = Check.mounted();
+        for (int parent = 1; parent <= 9; parent++) {
+            x.make(parent, 1, true);
+        }
+        for (int parent = 9; parent >= 1; parent--) {
+            C.due("move", x.move(parent, 1, parent, 2), parent + 1);
+        }
+        C.due("mount()", x.mount(), 9);
+        C.due("entry(9, 2)", x.entry(9, 2), 10);
+        C.due("kindOf(10)", x.kindOf(10), 2);
+        Check.cutPower(x);
+        C.due("spoil(102): the link of the uppermost", x.peek(104) == 65538 && x.spoil(102), true);
+        C.due("mount()", x.mount(), 0);
+    }
+
     /** Of two copies of a node the one at the lower place counts. */
     private static void copiesOfACutCollection() {
         NodeLogFlash x = Check.mounted();
@@ -135,6 +152,7 @@ final class Promise02MountTest {
         clearsFromBlockZeroOn();
         sweepsWhatNoLongerCounts();
         olderLinkDoesNotComeBack();
+        linksBeforeThoseOfTheirParents();
         copiesOfACutCollection();
         C.end();
     }

@@ -45,6 +45,42 @@ final class Promise05MakeTest {
         C.due("make(2, 3)", x.make(2, 3, false), 6);
     }
 
+    /** Eleven directories, each in the one before it. */
+    private static void greatestDepth() {
+        NodeLogFlash x = Check.mounted();
+        for (int parent = 1; parent < 12; parent++) {
+            C.due("make(" + parent + ", 9)", x.make(parent, 9, true), parent + 1);
+        }
+        C.due("mount()", x.mount(), 11);
+        for (int inode = 1; inode <= 12; inode++) {
+            C.due("kindOf(" + inode + ")", x.kindOf(inode), 2);
+        }
+        C.due("LOOP at the greatest depth", x.move(1, 9, 12, 9), NodeLogFlash.LOOP);
+        C.due("remove(11, 9)", x.remove(11, 9), 12);
+        C.due("remove(10, 9)", x.remove(10, 9), 11);
+        C.due("make(10, 1, true)", x.make(10, 1, true), 11);
+        C.due("move(10, 1, 1, 1)", x.move(10, 1, 1, 1), 11);
+        C.due("make(11, 9, false)", x.make(11, 9, false), 12);
+        C.due("write(12, 10, 6, 5)", x.write(12, 10, 6, 5), 13);
+        C.due("read(12, 15)", x.read(12, 15), 10);
+        C.due("size(12)", x.size(12), 16);
+        C.due("entry(11, 9)", x.entry(11, 9), 12);
+    }
+
+    private static void entriesOfTheLastInode() {
+        NodeLogFlash x = Check.mounted();
+        for (int name = 1; name <= 9; name++) {
+            x.make(1, name, name == 9);
+        }
+        x.make(10, 1, true);
+        C.due("make(11, 1, true)", x.make(11, 1, true), 12);
+        x.remove(1, 1);
+        C.due("make(12, 9, false)", x.make(12, 9, false), 2);
+        C.due("entry(12, 9)", x.entry(12, 9), 2);
+        C.due("size(12)", x.size(12), 1);
+        C.due("make(12, 9, true)", x.make(12, 9, true), NodeLogFlash.EXISTS);
+    }
+
     private static void noPlaceIsLeft() {
         NodeLogFlash x = Check.mounted();
         x.make(1, 1, false);
@@ -116,6 +152,8 @@ final class Promise05MakeTest {
         appendsALink();
         takesTheLeastInode();
         noInodeIsLeft();
+        greatestDepth();
+        entriesOfTheLastInode();
         noPlaceIsLeft();
         refusals();
         versions();

@@ -79,6 +79,45 @@ final class Promise08WriteTest {
         C.due("freeWords(0)", x.freeWords(0), 0);
     }
 
+    /** The only block without a node may be any of them. */
+    private static void fullButForBlockZero() {
+        NodeLogFlash x = Check.fiveFullBlocks();
+        C.due("collect(): block 0 goes to block 5", x.collect(), 10);
+        C.due("write behind it", x.write(3, 10, 6, 1), 16);
+        C.due("freeWords(5)", x.freeWords(5), 0);
+        int before = x.operations();
+        C.due("write: only block 0 is empty", x.write(3, 0, 1, 1), NodeLogFlash.FULL);
+        C.due("make: only block 0 is empty", x.make(1, 6, false), NodeLogFlash.FULL);
+        C.due("freeWords(0)", x.freeWords(0), 23);
+        C.due("operations()", x.operations(), before);
+    }
+
+    private static void collectedAndFilledAgain() {
+        NodeLogFlash x = withFile();
+        for (int i = 2; i <= 10; i++) {
+            x.write(2, 0, 6, i);
+        }
+        for (int i = 0; i < 3; i++) {
+            C.due("collect()", x.collect(), 20);
+        }
+        C.due("collect(): block 0", x.collect(), 10);
+        C.due("collect(): block 4", x.collect(), 10);
+        C.due("freeWords(1)", x.freeWords(1), 8);
+        for (int i = 11; i <= 16; i++) {
+            C.due("write into blocks 0, 2 and 3", x.write(2, 0, 6, i), i);
+        }
+        C.due("freeWords(3)", x.freeWords(3), 3);
+        C.due("write into block 4", x.write(2, 6, 6, 17), 17);
+        C.due("write into block 4", x.write(2, 6, 6, 18), 18);
+        C.due("freeWords(4)", x.freeWords(4), 3);
+        C.due("write: only block 5 is empty", x.write(2, 0, 6, 19), NodeLogFlash.FULL);
+        C.due("collect(): block 0", x.collect(), 20);
+        C.due("freeWords(0)", x.freeWords(0), 23);
+        C.due("write into block 0, as block 5 is empty too", x.write(2, 0, 6, 20), 19);
+        C.due("freeWords(0)", x.freeWords(0), 13);
+        C.due("freeWords(5)", x.freeWords(5), 23);
+    }
+
     /** When no block is empty, what a cut collection left behind is a node with room behind it. */
     private static void noEmptyBlock() {
         NodeLogFlash x = Check.noEmptyBlock();
@@ -138,6 +177,8 @@ final class Promise08WriteTest {
         filesApart();
         placing();
         full();
+        fullButForBlockZero();
+        collectedAndFilledAgain();
         noEmptyBlock();
         refusals();
         cuts();

@@ -34,6 +34,32 @@ final class Promise10SizeTest {
         C.due("size(5)", x.size(5), 1);
     }
 
+    private static void rightAfterAMark() {
+        NodeLogFlash x = Check.mounted();
+        x.make(1, 1, false);
+        x.write(2, 0, 3, 1);
+        x.write(2, 0, 4, 1);
+        C.due("deadWords(0)", x.deadWords(0), 7);
+        C.due("size(2)", x.size(2), 4);
+    }
+
+    private static void rightAfterAMount() {
+        NodeLogFlash x = Check.mounted();
+        x.make(1, 1, true);
+        x.make(2, 1, false);
+        x.write(3, 2, 4, 1);
+        x.mount();
+        C.due("size(3)", x.size(3), 6);
+        Check.cutPower(x);
+        x.spoil(11);
+        x.mount();
+        C.due("size(3) when its data went bad", x.size(3), 0);
+        Check.cutPower(x);
+        x.spoil(6);
+        x.mount();
+        C.due("size(3) when its link went bad", x.size(3), NodeLogFlash.MISSING);
+    }
+
     private static void refusals() {
         NodeLogFlash x = Check.mounted();
         int[] bad = {0, 13, -1, Integer.MIN_VALUE, Integer.MAX_VALUE};
@@ -51,6 +77,8 @@ final class Promise10SizeTest {
     public static void main(String[] args) {
         files();
         directories();
+        rightAfterAMark();
+        rightAfterAMount();
         refusals();
         C.end();
     }

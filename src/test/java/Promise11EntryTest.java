@@ -22,6 +22,16 @@ final class Promise11EntryTest {
         C.due("operations()", x.operations(), 18 + 15 + 6 + 1);
     }
 
+    private static void rightAfterAMount() {
+        NodeLogFlash x = Check.mounted();
+        x.make(1, 1, true);
+        x.make(2, 2, false);
+        x.mount();
+        Check.cutPower(x);
+        C.due("mount()", x.mount(), 2);
+        C.due("entry(2, 2)", x.entry(2, 2), 3);
+    }
+
     private static void refusals() {
         NodeLogFlash x = Check.mounted();
         x.make(1, 1, false);
@@ -41,6 +51,7 @@ final class Promise11EntryTest {
 
     public static void main(String[] args) {
         finds();
+        rightAfterAMount();
         refusals();
         C.end();
     }

@@ -24,8 +24,13 @@ final class Promise12KindOfTest {
         Check.cutPower(x);
         C.due("kindOf(2)", x.kindOf(2), NodeLogFlash.OFF);
         x.spoil(6);
-        x.mount();
+        C.due("mount()", x.mount(), 1);
+        C.due("kindOf(2) right after a mount", x.kindOf(2), 1);
         C.due("kindOf(3) when its link went bad", x.kindOf(3), 0);
+        x.write(2, 0, 1, 1);
+        x.write(2, 0, 1, 2);
+        C.due("deadWords(0)", x.deadWords(0), 15);
+        C.due("kindOf(2) right after a mark", x.kindOf(2), 1);
         C.end();
     }
 }

@@ -103,6 +103,32 @@ final class Promise13CollectTest {
         C.due("read(2, 0)", x.read(2, 0), 10);
     }
 
+    /** Once a node was placed in an empty block, that block is one with a node for the next. */
+    private static void eachPlacedNodeCountsForTheNext() {
+        NodeLogFlash x = Check.mounted();
+        x.make(1, 1, false);
+        x.write(2, 0, 6, 1);
+        x.write(2, 6, 4, 1);
+        x.make(1, 2, false);
+        x.write(3, 0, 4, 10);
+        x.make(1, 3, false);
+        x.make(1, 4, false);
+        x.move(1, 2, 1, 5);
+        x.write(3, 4, 2, 20);
+        x.write(3, 6, 2, 30);
+        C.due("freeWords(1)", x.freeWords(1), 0);
+        C.due("freeWords(2)", x.freeWords(2), 6);
+        x.remove(1, 1);
+        C.due("collect()", x.collect(), 23);
+        C.due("freeWords(0)", x.freeWords(0), 23);
+        C.due("collect()", x.collect(), 5);
+        C.due("all three went to block 0", x.freeWords(0), 5);
+        C.due("freeWords(2)", x.freeWords(2), 6);
+        C.due("the data is first", x.peek(1), 0x5D820008);
+        C.due("then a link", x.peek(9), 0x5D810005);
+        C.due("then the other", x.peek(14), 0x5D810005);
+    }
+
     private static void noneCanBeServed() {
         NodeLogFlash x = Check.noEmptyBlock();
         C.due("write 6", x.write(2, 0, 6, 500), 16);
@@ -153,7 +179,48 @@ final class Promise13CollectTest {
         C.due("freeWords(3)", y.freeWords(3), 15);
     }
 
-    private static void servedOnlyWhenAllNodesFit() {
+    /** A write of which only the HEAD is programmed. */
+    private static void cutWrite(NodeLogFlash x, int n) {
+        x.arm(1);
+        C.due("write cut", x.write(2, 0, n, 1), NodeLogFlash.CUT);
+        x.mount();
+    }
+
+    private static void passesOverWhatCannotBeServed() {
+        NodeLogFlash x = Check.mounted();
+        x.make(1, 1, false);
+        cutWrite(x, 2);
+        cutWrite(x, 2);
+        x.write(2, 0, 4, 10);
+        cutWrite(x, 4);
+        cutWrite(x, 3);
+        int[] offsets = {4, 9, 11};
+        for (int offset : offsets) {
+            x.write(2, offset, 5, 100);
+            x.write(2, offset, 5, 200);
+        }
+        x.arm(1);
+        C.due("collect() cut", x.collect(), NodeLogFlash.CUT);
+        x.mount();
+        x.write(2, 1, 5, 300);
+        int[] dead = {12, 15, 9, 9, 9, 8};
+        int[] free = {6, 0, 5, 5, 5, 6};
+        for (int b = 0; b < 6; b++) {
+            C.due("deadWords(" + b + ")", x.deadWords(b), dead[b]);
+            C.due("freeWords(" + b + ")", x.freeWords(b), free[b]);
+        }
+        C.due("collect(): 8 words of block 1 have no place", x.collect(), 12);
+        C.due("freeWords(0)", x.freeWords(0), 23);
+        C.due("freeWords(1)", x.freeWords(1), 0);
+        C.due("freeWords(2)", x.freeWords(2), 0);
+        C.dueNode("the link's copy", x, 67, 0x5D810005, 1, 65537, 2);
+        C.due("collect(): now there is an empty block", x.collect(), 15);
+        C.due("freeWords(0)", x.freeWords(0), 15);
+        C.due("freeWords(1)", x.freeWords(1), 23);
+        C.due("read(2, 0)", x.read(2, 0), 10);
+    }
+
+    private static void otherBlocksStayAsTheyAre() {
         NodeLogFlash x = withDeadWords();
         x.make(1, 4, false);
         x.write(5, 0, 6, 70);
@@ -203,9 +270,11 @@ final class Promise13CollectTest {
         mostDeadWordsAreTaken();
         aBlockWithoutValidNodes();
         intoTheLastEmptyBlock();
+        eachPlacedNodeCountsForTheNext();
         noneCanBeServed();
         eachNodeHasItsOwnPlace();
-        servedOnlyWhenAllNodesFit();
+        passesOverWhatCannotBeServed();
+        otherBlocksStayAsTheyAre();
         cuts();
         C.end();
     }
