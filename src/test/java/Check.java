@@ -23,6 +23,22 @@ final class Check {
         due(what + ", check", x.peek(place + wordsBeforeCheck.length), 1 + (c & 0x3FFFFFFF));
     }
 
+    /** Runs the test of one sentence of the document and says when that sentence does not hold. */
+    void sentence(String sentence, Runnable test) {
+        int before = wrong;
+        test.run();
+        if (wrong != before) {
+            System.out.println("does not hold: " + sentence);
+        }
+    }
+
+    /** Holds all words against those that stood there before, from one place up to another. */
+    void dueWords(String what, NodeLogFlash x, int[] before, int from, int to) {
+        for (int p = from; p < to; p++) {
+            due(what + ", peek(" + p + ")", x.peek(p), before[p]);
+        }
+    }
+
     int wrong() {
         return wrong;
     }

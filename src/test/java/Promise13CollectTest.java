@@ -179,30 +179,8 @@ final class Promise13CollectTest {
         C.due("freeWords(3)", y.freeWords(3), 15);
     }
 
-    /** A write of which only the HEAD is programmed. */
-    private static void cutWrite(NodeLogFlash x, int n) {
-        x.arm(1);
-        C.due("write cut", x.write(2, 0, n, 1), NodeLogFlash.CUT);
-        x.mount();
-    }
-
     private static void passesOverWhatCannotBeServed() {
-        NodeLogFlash x = Check.mounted();
-        x.make(1, 1, false);
-        cutWrite(x, 2);
-        cutWrite(x, 2);
-        x.write(2, 0, 4, 10);
-        cutWrite(x, 4);
-        cutWrite(x, 3);
-        int[] offsets = {4, 9, 11};
-        for (int offset : offsets) {
-            x.write(2, offset, 5, 100);
-            x.write(2, offset, 5, 200);
-        }
-        x.arm(1);
-        C.due("collect() cut", x.collect(), NodeLogFlash.CUT);
-        x.mount();
-        x.write(2, 1, 5, 300);
+        NodeLogFlash x = States.mostDeadCannotBeServed();
         int[] dead = {12, 15, 9, 9, 9, 8};
         int[] free = {6, 0, 5, 5, 5, 6};
         for (int b = 0; b < 6; b++) {
