@@ -26,7 +26,13 @@ final class Check {
     /** Runs the test of one sentence of the document and says when that sentence does not hold. */
     void sentence(String sentence, Runnable test) {
         int before = wrong;
-        test.run();
+        try {
+            test.run();
+        } catch (RuntimeException failed) {
+            // The other sentences are to be tested all the same.
+            wrong++;
+            System.out.println(failed);
+        }
         if (wrong != before) {
             System.out.println("does not hold: " + sentence);
         }

@@ -65,11 +65,53 @@ final class EdgesOfBlocksTest {
         C.due("freeWords(3)", x.freeWords(3), 15);
     }
 
+    /** Block 0 is empty, block 2 has 6 free words; block 1 has valid nodes of 8, 5 and 5 words. */
+    private static void anEmptyBlockHasANodeForTheNext() {
+        NodeLogFlash x = Check.mounted();
+        x.make(1, 1, false);
+        x.write(2, 0, 6, 1);
+        x.write(2, 6, 4, 1);
+        x.make(1, 2, false);
+        x.write(3, 0, 4, 10);
+        x.make(1, 3, false);
+        x.make(1, 4, false);
+        x.move(1, 2, 1, 5);
+        x.write(3, 4, 2, 20);
+        x.write(3, 6, 2, 30);
+        x.remove(1, 1);
+        C.due("collect() of block 0", x.collect(), 23);
+        C.due("freeWords(2)", x.freeWords(2), 6);
+        C.due("collect() of block 1", x.collect(), 5);
+        C.due("the links follow the data to block 0", x.freeWords(0), 5);
+        C.due("freeWords(2)", x.freeWords(2), 6);
+    }
+
+    /** Block 1 has, behind newer nodes, an older link that a collection brought there. */
+    private static void placesNotVersions() {
+        NodeLogFlash x = Check.mounted();
+        x.make(1, 1, false);
+        x.write(2, 0, 6, 1);
+        x.write(2, 0, 6, 2);
+        x.write(2, 6, 2, 3);
+        C.due("the newest lies behind the link in block 0", x.peek(17), 4);
+        C.due("collect() of block 0", x.collect(), 10);
+        C.due("version of the first", x.peek(26), 3);
+        C.due("version of the second", x.peek(36), 1);
+        C.due("version of the third", x.peek(41), 4);
+        C.due("write", x.write(2, 0, 6, 5), 5);
+        C.due("collect() of block 1", x.collect(), 10);
+        C.due("its link", x.peek(11), 0x5D810005);
+        C.due("version of the link", x.peek(12), 1);
+        C.due("version of the data", x.peek(17), 4);
+    }
+
     private static void served() {
         deadWordsAreNeeded();
         roomInOtherBlocks();
         onlyBlockWithoutANode();
         eachPlacedNodeCounts();
+        anEmptyBlockHasANodeForTheNext();
+        placesNotVersions();
     }
 
     /** Files 2 .. 4 fill the blocks 0 .. 2, each with nodes of 5, 10 and 8 words. */

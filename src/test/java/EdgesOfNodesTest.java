@@ -277,9 +277,30 @@ final class EdgesOfNodesTest {
         C.due("read(3, 5)", x.read(3, 5), 205);
     }
 
+    /** After a collection the data is the first node of all; it counts, and when it is covered it does not. */
+    private static void dataAtTheLowestPlace() {
+        NodeLogFlash x = withFile();
+        x.write(2, 0, 6, 1);
+        x.write(2, 6, 4, 2);
+        x.make(1, 2, false);
+        x.write(3, 0, 4, 30);
+        x.move(1, 2, 1, 3);
+        x.write(3, 4, 1, 40);
+        C.due("freeWords(1)", x.freeWords(1), 0);
+        x.remove(1, 1);
+        C.due("collect() of block 0", x.collect(), 23);
+        C.due("collect() of block 1", x.collect(), 5);
+        C.due("the data is first", x.peek(1), 0x5D820008);
+        C.due("mount()", x.mount(), 3);
+        C.due("read(3, 3)", x.read(3, 3), 33);
+        x.write(3, 0, 4, 50);
+        C.due("now it is marked", x.peek(1), 0x5D020008);
+    }
+
     private static void seenData() {
         dataWithOneCellLeft();
         dataOfAnotherFile();
+        dataAtTheLowestPlace();
     }
 
     /** When the newest data goes bad before it was swept around, the older data is there again. */
@@ -341,6 +362,24 @@ final class EdgesOfNodesTest {
         }
     }
 
+    /** A file is replaced whose data lies before its link: data and links are marked as they lie. */
+    private static void dataBeforeLinks() {
+        int[] places = {6, 16, 25};
+        for (int n = 5; n <= 8; n++) {
+            NodeLogFlash x = withFile();
+            x.write(2, 0, 6, 1);
+            x.move(1, 1, 1, 2);
+            x.make(1, 3, false);
+            C.due("the link of file 3", x.peek(25), 0x5D810005);
+            x.arm(n);
+            C.due("move with " + n, x.move(1, 3, 1, 2), n < 8 ? NodeLogFlash.CUT : 3);
+            for (int i = 0; i < 3; i++) {
+                C.due("mark " + i + " with " + n, (x.peek(places[i]) & 0x00800000) == 0, i < n - 5);
+            }
+            C.due("mount()", x.mount(), 1);
+        }
+    }
+
     /**
      * The newest link of file 4, in the lost directory 3, lies before its older one. Both are found before
      * the first is marked; the older one must not hold again in between.
@@ -368,6 +407,7 @@ final class EdgesOfNodesTest {
 
     private static void sweeps() {
         marksInTheOrderOfPlaces();
+        dataBeforeLinks();
         allAreFoundBeforeTheFirstMark();
         NodeLogFlash x = States.forest();
         int before = x.operations();

@@ -152,10 +152,39 @@ final class EdgesOfPlacingTest {
         C.due("freeWords(5)", x.freeWords(5), 23);
     }
 
+    /** Block 0 has no node, nor has the other block when it is not 0; the rest is full or nearly so. */
+    private static NodeLogFlash withoutNodes(int other) {
+        NodeLogFlash x = Check.fiveFullBlocks();
+        C.due("collect() of block 0 to block 5", x.collect(), 10);
+        C.due("write", x.write(3, 10, 6, 1), 16);
+        if (other > 0) {
+            C.due("remove", x.remove(1, other + 1), other + 2);
+            C.due("collect()", x.collect() > 0, true);
+        }
+        return x;
+    }
+
+    /** Block 0 alone has no node; then block 0 and one more, of which block 0 may be used. */
+    private static void theOnlyBlockMayBeTheLowest() {
+        NodeLogFlash x = withoutNodes(0);
+        C.due("freeWords(0)", x.freeWords(0), 23);
+        C.due("freeWords(5)", x.freeWords(5), 0);
+        C.due("make", x.make(1, 9, false), NodeLogFlash.FULL);
+        for (int b = 1; b <= 3; b++) {
+            NodeLogFlash y = withoutNodes(b);
+            C.due("freeWords(0)", y.freeWords(0), 23);
+            C.due("freeWords(" + b + ")", y.freeWords(b), 23);
+            C.due("make, block " + b + " is empty too", y.make(1, 9, false), b + 2);
+            C.due("freeWords(0)", y.freeWords(0), 18);
+            C.due("freeWords(" + b + ")", y.freeWords(b), 23);
+        }
+    }
+
     private static void full() {
         noPlaceAtAll();
         onlyOneBlockWithoutANode();
         twoBlocksWithoutANode();
+        theOnlyBlockMayBeTheLowest();
     }
 
     private static void versions() {
@@ -178,6 +207,10 @@ final class EdgesOfPlacingTest {
         C.due("write", x.write(2, 0, 1, 1), NodeLogFlash.CUT);
         x.mount();
         C.due("nor have nodes that were cut", x.write(2, 0, 1, 1), 5);
+        NodeLogFlash y = withFree(8);
+        C.due("9 words, in block 1", y.write(2, 6, 5, 1), 3);
+        C.due("5 words, in block 0", y.write(2, 11, 1, 1), 4);
+        C.due("the greatest is not at the last place", y.write(2, 12, 1, 1), 5);
     }
 
     private static void sweepAfterIt() {
